@@ -8,6 +8,7 @@ public final class DoneTest {
         stuffed();
         undone();
         refusedIsNotUndone();
+        ends();
         DUE.end();
     }
 
@@ -121,5 +122,30 @@ public final class DoneTest {
         DUE.is("letters stay", x.count(5), 1);
         DUE.is("IMAGES stay", x.back(0), 1);
         DUE.is("WORN", x.now(5), 9);
+    }
+
+    /** No run of 512 calls comes so far; the class keeps to it all the same. */
+    private static void ends() {
+        QuarterTurns x = new QuarterTurns();
+        for (int i = 1; i <= 999; i++) {
+            x.season();
+            x.stuffs(0);
+        }
+        DUE.is("THE SEASON", x.now(0), 999);
+        DUE.is("not WORN OUT", x.now(3), 0);
+        DUE.is("it is SEASON 999", x.season(), QuarterTurns.STATE);
+        DUE.is("WORN", x.now(5), 0);
+        for (int i = 0; i < 9998; i++) {
+            x.makes(1);
+        }
+        DUE.is("TURNS", x.now(2), 9998);
+        DUE.is("makes(1)", x.makes(1), 1);
+        DUE.is("TURNS", x.now(2), 9999);
+        DUE.is("made, but not counted", x.makes(1), 0);
+        DUE.is("TURNS", x.now(2), 9999);
+        x.undo();
+        DUE.is("TURNS, one UNDONE", x.now(2), 9999);
+        x.undo();
+        DUE.is("TURNS, two UNDONE", x.now(2), 9998);
     }
 }
