@@ -73,7 +73,11 @@ public final class ModelTest {
             text.append("s").append(steps).append(' ').append(covers).append(';');
         }
         int most = 1 + below(9);
-        for (int i = below(14); i > 0; i--) {
+        boolean alike = below(6) == 0;
+        for (int w = 0; alike && w < ways; w++) {
+            text.append('l').append(w).append(' ').append(most).append(';');
+        }
+        for (int i = below(alike ? 3 : 14); i > 0; i--) {
             text.append('l').append(below(ways)).append(' ').append(1 + below(most)).append(';');
         }
         if (below(3) != 0) {

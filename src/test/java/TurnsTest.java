@@ -42,8 +42,22 @@ public final class TurnsTest {
         DUE.is("the first", y.byTurns(1), 304);
         QuarterTurns z = Due.made("s6 2;b7;");
         DUE.is("the first of 6, 2", z.byTurns(1), 607);
+        everyShape();
         DUE.is("byTurns(2)", z.byTurns(2), QuarterTurns.BAD);
         DUE.is("byTurns(-1)", z.byTurns(-1), QuarterTurns.BAD);
+    }
+
+    private static void everyShape() {
+        int[][] many = {{2, 4, 8, 16, 16}, {6, 6, 8, 20, 12}};
+        int[][] first = {{1, 1, 1, 1, 1}, {102, 304, 405, 506, 607}};
+        for (int covers = 1; covers <= 2; covers++) {
+            for (int steps = 2; steps <= 6; steps++) {
+                String shape = "s" + steps + " " + covers + ";b1;";
+                QuarterTurns x = Due.made(shape);
+                DUE.is("byTurns(0) of " + shape, x.byTurns(0), many[covers - 1][steps - 2]);
+                DUE.is("byTurns(1) of " + shape, x.byTurns(1), first[covers - 1][steps - 2]);
+            }
+        }
     }
 
     private static void reached() {

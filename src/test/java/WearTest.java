@@ -68,6 +68,8 @@ public final class WearTest {
         DUE.is("nothing changed", y.now(5), 9);
         DUE.is("LIES as before", y.now(1), 0);
         row(Due.made("s6 2;"), 4, 1, 0, 1, 1, 1);
+        row(Due.made("s6 2;"), 1, 1, 0);
+        row(Due.made("s2 1;l0 9;l1 9;"), 4, 18, 0, 0, 1, 0);
     }
 
     private static void planOfWornOut() {
