@@ -702,9 +702,9 @@ public final class QuarterTurns {
 
         private void readNumber() {
             number = 0;
-            for (int i = place; i < behind; i++) {
-                // A long row of digits would not fit an int: above 99 it is all the same.
-                number = Math.min(MOST_NUMBER + 1, 10 * number + text.letters[i] - '0');
+            // A long row of digits would not fit an int, and above 99 it is all the same.
+            for (int i = place; i < behind && number <= MOST_NUMBER; i++) {
+                number = 10 * number + text.letters[i] - '0';
             }
             boolean zeroAhead = text.letters[place] == '0' && behind - place > 1;
             token = zeroAhead || number > MOST_NUMBER ? BROKEN : NUMBER;
