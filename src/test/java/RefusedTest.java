@@ -2,6 +2,7 @@ import java.util.LinkedHashMap;
 import java.util.Map;
 import java.util.function.Consumer;
 import java.util.function.ToLongFunction;
+import java.util.function.UnaryOperator;
 
 /**
  * "Refused, and nothing changes, the first of these: BAD (a number is not as told, or there is no
@@ -38,6 +39,7 @@ public final class RefusedTest {
             test.setsAndRows();
             test.numbers();
             test.askingChangesNothing();
+            test.nothingElseChanges();
         }
         states();
         fulls();
@@ -206,6 +208,48 @@ public final class RefusedTest {
         x.which();
         x.trace();
         DUE.holds(name + ": asking changes nothing", Seen.of(x).equals(Seen.of(made())));
+    }
+
+    /** What a call changes is what the document tells of it: rate() THE TRACE alone, keep() an IMAGE alone, and so on. */
+    private void nothingElseChanges() {
+        UnaryOperator<String> noTrace = seen -> seen.replaceAll("trace: .*\n", "");
+        UnaryOperator<String> noImages = seen -> seen.substring(0, seen.indexOf("back 0"));
+        UnaryOperator<String> noText = seen -> seen.substring(0, seen.indexOf("bed:")).replaceAll("count 5: .*\n", "");
+        UnaryOperator<String> noHollows = seen -> seen.replaceAll("(count 4|which): .*\n", "");
+        nothingBut("THE TRACE by rate()", this::ratesAll, noTrace);
+        nothingBut("an IMAGE by keep(0)", x -> x.keep(0), noImages);
+        nothingBut("an IMAGE by keep(1)", x -> x.keep(1), noImages);
+        nothingBut("THE TEXT by type()", x -> x.type('m'), noText);
+        nothingBut("THE TEXT by clear()", QuarterTurns::clear, noText);
+        nothingBut("HOLLOWS by hollows()", x -> x.hollows(2, 1, 7), noHollows);
+        nothingBut("HOLLOWS by forget()", QuarterTurns::forget, noHollows);
+        if (made().now(6) < 10) {
+            nothingBut("what is UNDONE", RefusedTest::doneAndUndone, seen -> seen);
+        }
+    }
+
+    private void ratesAll(QuarterTurns x) {
+        for (int w = 0; w < ways; w++) {
+            for (int kind = 0; kind < 6; kind++) {
+                x.rate(kind, w);
+            }
+        }
+    }
+
+    private static void doneAndUndone(QuarterTurns x) {
+        x.makes(1);
+        x.undo();
+        x.stuffs(0);
+        x.undo();
+        if (x.season() >= 0) {
+            x.undo();
+        }
+    }
+
+    private void nothingBut(String what, Consumer<QuarterTurns> call, UnaryOperator<String> rest) {
+        QuarterTurns x = made();
+        call.accept(x);
+        DUE.holds(name + ": nothing but " + what, rest.apply(Seen.of(x)).equals(rest.apply(Seen.of(made()))));
     }
 
     /** STATE: season() ("it is WORN OUT, it is SEASON 999"), undo() ("none"), back() ("none was kept"). */
